@@ -1,3 +1,7 @@
+import java.util.Collections;
+import java.util.HashMap;
+import java.util.Map;
+
 /** Each promise by cases worked out by hand: ordinary ones, the document's edges, and wrong inputs. */
 public final class PromisesTest {
     private static final String TOWN = "town 3 4;person 00-1;person 0011;person 1101;person -012;"
@@ -225,6 +229,8 @@ public final class PromisesTest {
         badTown("Town 2 1", 0, 0);
         badTown("towns 2 1", 0, 0);
         badTown("tow 2 1", 0, 0);
+        badTown("townz 2 1", 0, 0);
+        badTown("town 2 1;a", 9, 0);
         badTown("\u00e9", 0, 0);
         badTown("5", 0, 0);
         badTown("person 0", 0, 4);
@@ -637,6 +643,14 @@ public final class PromisesTest {
         // Without the third one in HOUR 3 the crowd is 2: one of 2 counts 4, the kin 1.
         x.told(1, 3, 4);
         eachWorlds(2, 2, 3, 5, 2);
+        fresh("town 2 1;person 0;person 0;person 0");
+        rule("shake crowd");
+        x.force(0);
+        x.told(0, 0, 2);
+        eachWorlds(3, 2, 2, 0, 0);
+        x.told(-1, 0, 0);
+        x.told(0, 0, 9);
+        eachWorlds(1, 3, 3, 7, 0);
         fresh("town 2 1");
         eachWorlds(1, 0, 0, 0, 0);
         x.told(0, 0, 1);
@@ -663,9 +677,35 @@ public final class PromisesTest {
         due("of several", x.ask(0), 1);
         due("of several", x.ask(1), 0);
         due("of several", x.ask(2), 12);
+        askedOfMany();
         fresh("town 2 1");
         due("nobody", x.ask(0), 0);
         due("nobody", x.ask(2), 1);
+    }
+
+    /** Hundreds of SUMS of one crowd, many of them more than once. */
+    private static void askedOfMany() {
+        fresh("town 2 1" + times(";person 0", 10));
+        rule("shake one * 41 + other * other * 7 % 97");
+        x.force(0);
+        Map<Integer, Integer> alike = new HashMap<>();
+        for (int world = 0; world < 1024; world++) {
+            int sum = 0;
+            for (int one = 0; one < 10; one++) {
+                for (int other = one + 1; other < 10; other++) {
+                    boolean both = (world >> one & 1) + (world >> other & 1) == 2;
+                    sum += both ? one * 41 + other * other * 7 % 97 : 0;
+                }
+            }
+            alike.merge(sum, 1, Integer::sum);
+        }
+        int most = Collections.max(alike.values());
+        due("hundreds of sums", alike.size() > 600 ? 1 : 0, 1);
+        due("ask", x.ask(2), most);
+        int other = alike.keySet().stream().filter(sum -> alike.get(sum) > 1 && sum != 0).findFirst().orElseThrow();
+        x.told(0, 0, other);
+        due("worlds", x.worlds(0), alike.get(other));
+        due("ask", x.ask(2), alike.get(other));
     }
 
     private static void gates() {
@@ -738,6 +778,11 @@ public final class PromisesTest {
         x.glove(2, true);
         due("one", x.odd(0), 1);
         due("the least", x.odd(1), 1);
+        fresh("town 2 1;person 0;person 0;person 1;person 1");
+        rule("shake gloves if one = 2;shake 1 if gloves = 2");
+        x.force(0);
+        due("fewer, though greater as bits", x.odd(0), 1);
+        due("fewer, though greater as bits", x.odd(1), 4);
     }
 
     private static void shuns() {
@@ -891,6 +936,8 @@ public final class PromisesTest {
         due("seed", x.seed(-1), -1);
         due("seed", x.seed(2147483647), 5);
         due("x", x.count(11), 2147483647);
+        due("seed", x.seed(0), 2147483647);
+        due("x", x.count(11), 0);
         rule("shake 3");
         x.force(0);
         due("odd ones", x.drawn(7, 0, 1), 7);
