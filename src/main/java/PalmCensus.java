@@ -83,11 +83,13 @@ public final class PalmCensus {
         if (ruleCount >= MOST_RULES) {
             return NONE;
         }
-        if (!ruleReader.readRule()) {
+        boolean isRule = ruleReader.readRule();
+        // Promise 5 keeps the TAPE behind NONE alone, unlike promise 4, by which all stays behind a FAULT.
+        tape.length = 0;
+        if (!isRule) {
             return -2 - tape.fault;
         }
         rules[ruleCount] = ruleReader.made();
-        tape.length = 0;
         return ruleCount++;
     }
 

@@ -541,10 +541,11 @@ public final class NaiveHelp {
         }
         try {
             rules.add(readRule());
-            tape.clear();
             return rules.size() - 1;
         } catch (Fault f) {
             return -2 - f.number;
+        } finally {
+            tape.clear();
         }
     }
 

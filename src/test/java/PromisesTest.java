@@ -65,10 +65,12 @@ public final class PromisesTest {
 
     private static void badTown(String text, int place, int kind) {
         due("town " + text, town(text), fault(place, kind));
+        due("TAPE behind town " + text, x.count(12), text.length());
     }
 
     private static void badRule(String text, int place, int kind) {
         due("rule " + text, rule(text), fault(place, kind));
+        due("TAPE behind rule " + text, x.count(12), 0);
     }
 
     private static String times(String text, int n) {
@@ -283,8 +285,12 @@ public final class PromisesTest {
         due("TAPE stays", x.count(12), 5);
         fresh("");
         badRule("shake", 5, 0);
-        due("TAPE stays", x.count(12), 5);
         due("no rule", x.count(3), 0);
+        due("end beyond the empty TAPE", x.end(1), -1);
+        due("an empty TAPE is no rule", x.rule(), fault(0, 0));
+        due("feed behind a FAULT", x.feed(0x7368616b, 0x65203720, 0x20202020, 0x20202020, 0x20202020), 20);
+        due("rule behind a FAULT", x.rule(), 0);
+        fresh("");
         due("12 clauses", rule("shake 1" + times(";shake 1", 11)), 0);
         due("60 values", rule("shake 1" + times("+1", 59)), 1);
         due("10 deep", rule("shake 1 if " + times("not", 1) + times(" not", 4) + times("[", 5) + "1=1" + times("]", 5)), 2);
