@@ -30,16 +30,7 @@ public final class PromisesTest {
 
     /** The TAPE is just this text then. */
     private static void tape(String text) {
-        x.end(0);
-        for (int from = 0; from < text.length(); from += 20) {
-            int[] v = new int[5];
-            for (int i = 0; i < 20; i++) {
-                int b = from + i < text.length() ? text.charAt(from + i) : 0;
-                v[i / 4] |= b << 24 - 8 * (i % 4);
-            }
-            x.feed(v[0], v[1], v[2], v[3], v[4]);
-        }
-        due("bytes of " + text, x.end(text.length()), text.length());
+        yes("bytes of " + text, CallsHelp.tape(x, text));
     }
 
     private static int town(String text) {
@@ -60,7 +51,7 @@ public final class PromisesTest {
     }
 
     private static int fault(int place, int kind) {
-        return -2 - (1 + 8 * place + kind);
+        return CallsHelp.fault(place, kind);
     }
 
     private static void badTown(String text, int place, int kind) {

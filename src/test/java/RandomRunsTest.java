@@ -1,7 +1,3 @@
-import java.lang.reflect.Method;
-import java.util.ArrayList;
-import java.util.Arrays;
-import java.util.Comparator;
 import java.util.List;
 import java.util.Random;
 
@@ -15,19 +11,17 @@ public final class RandomRunsTest {
 
     private static Random r = new Random(20261118);
     private static int wrong = 0;
-    private static PalmCensus mine;
+    private static TwinsHelp twins;
     private static NaiveHelp due;
     private static int people;
     private static int gates;
     private static int hours;
-    private static final List<String> told = new ArrayList<>();
 
-    public static void main(String[] args) throws Exception {
+    public static void main(String[] args) {
         r = new Random(Long.getLong("seed", 20261118L));
         for (int run = 0; run < RUNS && wrong == 0; run++) {
-            mine = new PalmCensus();
-            due = new NaiveHelp();
-            told.clear();
+            twins = new TwinsHelp();
+            due = twins.due;
             oneRun(run);
         }
         System.out.println(wrong == 0 ? RUNS + " random runs are as due" : "random runs are not as due");
@@ -36,7 +30,7 @@ public final class RandomRunsTest {
         }
     }
 
-    private static void oneRun(int run) throws Exception {
+    private static void oneRun(int run) {
         boolean large = run % 10 == 0;
         for (int i = 0; i < CALLS && wrong == 0; i++) {
             int dice = r.nextInt(100);
@@ -57,20 +51,13 @@ public final class RandomRunsTest {
         }
     }
 
-    private static void load(String text, String as) throws Exception {
+    private static void load(String text, String as) {
         String whole = text.length() > 400 ? text.substring(0, 400) : text;
         String t = r.nextInt(4) == 0 ? mutated(whole) : whole;
         if (r.nextInt(8) != 0) {
             call("end", 0);
         }
-        for (int from = 0; from < t.length(); from += 20) {
-            int[] v = new int[5];
-            for (int i = 0; i < 20; i++) {
-                int b = from + i < t.length() ? t.charAt(from + i) : 0;
-                v[i / 4] |= b << 24 - 8 * (i % 4);
-            }
-            call("feed", v[0], v[1], v[2], v[3], v[4]);
-        }
+        twins.feed(t);
         if (r.nextInt(20) != 0) {
             call("end", t.length());
         }
@@ -181,7 +168,7 @@ public final class RandomRunsTest {
         return r.nextInt(4) == 0 ? 99 : pick(gates);
     }
 
-    private static void act() throws Exception {
+    private static void act() {
         switch (r.nextInt(4)) {
             case 0 -> call("go", pick(people), pick(hours), place());
             case 1 -> call("glove", pick(people), r.nextInt(2));
@@ -190,7 +177,7 @@ public final class RandomRunsTest {
         }
     }
 
-    private static void randomCall(boolean large) throws Exception {
+    private static void randomCall(boolean large) {
         switch (r.nextInt(36)) {
             case 0 -> call("at", pick(people), pick(hours));
             case 1 -> call("person", pick(people), pick(5));
@@ -234,7 +221,7 @@ public final class RandomRunsTest {
     }
 
     /** Mostly a SUM that some WORLD has, so that the WORLDS that FIT are not always none. */
-    private static void tell() throws Exception {
+    private static void tell() {
         int gate = pick(gates);
         int hour = pick(hours);
         int sum = due.sum(gate, hour);
@@ -246,28 +233,11 @@ public final class RandomRunsTest {
         }
     }
 
-    private static void call(String name, int... args) throws Exception {
+    private static void call(String name, int... args) {
         if (SLOW.contains(name) && due.count(2) > 7 && r.nextInt(3) != 0) {
             return;
         }
-        long got = answer(mine, name, args);
-        long want = answer(due, name, args);
-        told.add(name + Arrays.toString(args) + " = " + want);
-        if (got != want) {
-            wrong++;
-            told.forEach(System.out::println);
-            System.out.println("^ answered " + got);
-        }
-    }
-
-    private static long answer(Object of, String name, int[] args) throws Exception {
-        Method m = Arrays.stream(of.getClass().getMethods()).filter(x -> x.getName().equals(name))
-            .min(Comparator.comparing(Method::toString)).orElseThrow();
-        Object[] given = new Object[args.length];
-        for (int i = 0; i < args.length; i++) {
-            given[i] = m.getParameterTypes()[i] == boolean.class ? (Object) (args[i] != 0) : (Object) args[i];
-        }
-        Object answer = m.invoke(of, given);
-        return answer instanceof Boolean is ? (is ? 1 : 0) : ((Integer) answer);
+        twins.call(name, args);
+        wrong += twins.isWrong ? 1 : 0;
     }
 }

@@ -23,18 +23,10 @@ public final class RoomTest {
             Thread.currentThread().getId());
     }
 
+    /** How many calls it is, with the town() or rule() behind it. */
     private static int load(PalmCensus x, String text) {
-        int calls = 1;
-        for (int from = 0; from < text.length(); from += 20, calls++) {
-            int[] v = new int[5];
-            for (int i = 0; i < 20; i++) {
-                int b = from + i < text.length() ? text.charAt(from + i) : 0;
-                v[i / 4] |= b << 24 - 8 * (i % 4);
-            }
-            x.feed(v[0], v[1], v[2], v[3], v[4]);
-        }
-        x.end(text.length());
-        return calls;
+        CallsHelp.tape(x, text);
+        return 3 + (text.length() + 19) / 20;
     }
 
     private static long run() {

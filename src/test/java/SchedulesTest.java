@@ -7,7 +7,7 @@ public final class SchedulesTest {
 
     public static void main(String[] args) {
         for (int people = 2; people <= 10; people++) {
-            PalmCensus x = townOf(people);
+            PalmCensus x = CallsHelp.townOf("town 2 1" + ";person 0".repeat(people));
             for (int gates = 1; gates <= 6; gates++) {
                 check(people, gates, x.rounds((1 << people) - 1, gates));
             }
@@ -16,25 +16,6 @@ public final class SchedulesTest {
         if (wrong != 0) {
             System.exit(1);
         }
-    }
-
-    private static PalmCensus townOf(int people) {
-        PalmCensus x = new PalmCensus();
-        StringBuilder text = new StringBuilder("town 2 1");
-        for (int p = 0; p < people; p++) {
-            text.append(";person 0");
-        }
-        for (int from = 0; from < text.length(); from += 20) {
-            int[] v = new int[5];
-            for (int i = 0; i < 20; i++) {
-                int b = from + i < text.length() ? text.charAt(from + i) : 0;
-                v[i / 4] |= b << 24 - 8 * (i % 4);
-            }
-            x.feed(v[0], v[1], v[2], v[3], v[4]);
-        }
-        x.end(text.length());
-        x.town();
-        return x;
     }
 
     private static void check(int people, int gates, int hours) {
