@@ -136,6 +136,8 @@ public final class BoundsOfPromisesTest extends BoundsHelp {
             due("none", x.end(0), 0);
             due("bytes", x.count(12), 0);
             due("of 400", full().end(400), 400);
+            eachCut("town 6 12;person 0-2345-54321;person-----------5;left 01 ; kin 0 1;counter 5   ;", true);
+            eachCut("shake 12345+crowd%3*met if not [one<=other or kin=1] and gloves>=children ; shake 7   ", false);
         });
         test(3, "NONE, and nothing happens, if it has not so many, or n is below 0", () -> {
             for (int n : new int[] {LEAST, -2, -1, 35, 36, 400, 401, MOST}) {
@@ -145,6 +147,18 @@ public final class BoundsOfPromisesTest extends BoundsHelp {
             idle(NEW, "end(-1) of an empty TAPE", x -> x.end(-1), -1);
             idle(FULL, "end(401)", x -> x.end(401), -1);
         });
+    }
+
+    /** What stood behind the first n bytes does not count any more. */
+    private static void eachCut(String text, boolean isTown) {
+        for (int n = 0; n < text.length(); n++) {
+            PalmCensus x = new PalmCensus();
+            tape(x, text);
+            due("end", x.end(n), n);
+            PalmCensus y = new PalmCensus();
+            tape(y, text.substring(0, n));
+            due(text.substring(0, n), isTown ? x.town() : x.rule(), isTown ? y.town() : y.rule());
+        }
     }
 
     private static void towns() {
@@ -159,6 +173,14 @@ public final class BoundsOfPromisesTest extends BoundsHelp {
             due("kin", x.person(0, 3), 2);
             due("left is nobody", x.person(1, 0), 0);
             due("COUNTERS", x.count(6), 0);
+            String all = "town 6 2" + ";person 55".repeat(5);
+            for (int p = 0; p < 5; p++) {
+                all += ";left " + p + ";gloved " + p + ";child " + p + ";kin " + p + " " + (p + 1) % 5 + ";counter " + p;
+            }
+            PalmCensus before = townOf(all);
+            due("a FAULT at the end", town(before, all + ";left 9"), fault(all.length() + 6, 1));
+            due("town", town(before, "town 6 2;person --;person 0-;person 05"), 3);
+            same("nothing of the other TOWN is there", before, townOf("town 6 2;person --;person 0-;person 05"));
         });
         test(4, "(DAY 0, nothing TOLD, no PALMS, nothing to be UNDONE; the RULE IN FORCE and x stay)", () -> {
             PalmCensus x = rich();
@@ -375,6 +397,11 @@ public final class BoundsOfPromisesTest extends BoundsHelp {
             needsTown("busy(1)", x -> x.busy(1), -1);
             due("nobody", townOf("town 6 12").busy(0), 0);
             due("nobody", townOf("town 6 12").busy(1), 0);
+            PalmCensus changes = townOf("town 2 2;person -1;person -1;person -1;person 0-;person 0-");
+            due("the HOUR", changes.busy(1), 1);
+            changes.go(0, 1, 99);
+            changes.go(1, 1, 99);
+            due("the HOUR then", changes.busy(1), 0);
             PalmCensus x = townOf("town 6 12;person -----------5;person -----------5");
             due("the last GATE", x.busy(0), 5);
             due("the last HOUR", x.busy(1), 11);

@@ -41,6 +41,7 @@ public final class BoundsOfTermsTest extends BoundsHelp {
         townClauses();
         peopleAndMarks();
         ruleClauses();
+        tests();
         numbersAndWords();
         arithmetic();
         depthAndSize();
@@ -171,7 +172,7 @@ public final class BoundsOfTermsTest extends BoundsHelp {
             }
         });
         terms("more than once, too", () -> {
-            PalmCensus x = townOf("town 2 1;person 0;left 0;left 0;gloved 0;gloved 0;child 0;child 0;left 0");
+            PalmCensus x = townOf("town 2 1;person 0;left 0;left 0;gloved 0;gloved 0;child 0;child 0");
             for (int what = 0; what < 3; what++) {
                 due("person " + what, x.person(0, what), 1);
             }
@@ -252,6 +253,54 @@ public final class BoundsOfTermsTest extends BoundsHelp {
         });
     }
 
+    private static void tests() {
+        terms("TEST: PART { or PART }. PART: FACT { and FACT }", () -> {
+            for (int bits = 0; bits < 16; bits++) {
+                boolean a = (bits & 1) != 0;
+                boolean b = (bits & 2) != 0;
+                boolean c = (bits & 4) != 0;
+                boolean d = (bits & 8) != 0;
+                holds(a + " or " + b + " or " + c + " or " + d, a || b || c || d);
+                holds(a + " and " + b + " and " + c + " and " + d, a && b && c && d);
+                holds(a + " or " + b + " and " + c + " or " + d, a || b && c || d);
+                holds(a + " and " + b + " or " + c + " and " + d, a && b || c && d);
+                holds(a + " or " + b + " and " + c + " and " + d, a || b && c && d);
+                holds(a + " and [ " + b + " or " + c + " ] and not " + d, a && (b || c) && !d);
+                holds("not [ " + a + " or " + b + " ] or not " + c + " and " + d, !(a || b) || !c && d);
+            }
+        });
+        terms("SIGN one of < <= = >= >", () -> {
+            String[] signs = {"<", "<=", "=", ">=", ">"};
+            boolean[] ofLess = {true, true, false, false, false};
+            boolean[] ofEqual = {false, true, true, true, false};
+            boolean[] ofMore = {false, false, false, true, true};
+            for (int i = 0; i < 5; i++) {
+                holds("1 " + signs[i] + " 2", ofLess[i]);
+                holds("2 " + signs[i] + " 2", ofEqual[i]);
+                holds("3 " + signs[i] + " 2", ofMore[i]);
+                holds("0 - 3 " + signs[i] + " 0 - 2", ofLess[i]);
+                holds("0 " + signs[i] + " 65536 * 65536", ofLess[i]);
+            }
+            badRule("shake 1 if 1 => 1", 14, 0);
+            badRule("shake 1 if 1 <> 1", 14, 0);
+            badRule("shake 1 if 1 == 1", 14, 0);
+            badRule("shake 1 if 1 ! 1", 13, 0);
+        });
+        terms("TERM: VALUE { (* or / or %) VALUE }", () -> {
+            counts("shake 2 + 3 * 4", 14);
+            counts("shake 2 * 3 + 4", 10);
+            counts("shake 20 - 3 - 4", 13);
+            counts("shake 20 - 3 * 4 + 5 * 6 - 7", 31);
+            counts("shake 100 / 10 / 5 * 7 % 4", 2);
+            counts("shake 1 - 2 - 3", -4);
+        });
+    }
+
+    /** Facts that are true or false, in place of those of a RULE. */
+    private static void holds(String test, boolean want) {
+        counts("shake 7 if " + test.replace("true", "1=1").replace("false", "1=0"), want ? 7 : 0);
+    }
+
     private static void numbersAndWords() {
         terms("1 to 5 digits, as far as digits go on", () -> {
             counts("shake 99999 - 99000", 999);
@@ -271,6 +320,14 @@ public final class BoundsOfTermsTest extends BoundsHelp {
             badRule("shake metkin", 6, 0);
             badRule("shake me", 6, 0);
             badRule("shake mett", 6, 0);
+            badRule("shake amet", 6, 0);
+            badRule("shake meta", 6, 0);
+            badRule("shake metz", 6, 0);
+            badRule("shake zmet", 6, 0);
+            badTown("towna 2 1", 0, 0);
+            badTown("townz 2 1", 0, 0);
+            badTown("town`2 1", 4, 0);
+            badTown("town{2 1", 4, 0);
             badRule("shake Met", 6, 0);
             badRule("shake mEt", 6, 0);
             badRule("shake met1", 9, 0);
@@ -282,6 +339,19 @@ public final class BoundsOfTermsTest extends BoundsHelp {
             due("the least two", x.shake(1, 0, 0), 1);
             due("the greatest two", x.shake(9, 8, 0), 89);
             due("the greatest two", x.shake(8, 9, 0), 89);
+        });
+        terms("gate, hour, day", () -> {
+            PalmCensus x = ruled("town 6 12;person 0----------5;person 0----------5", "shake gate * 100 + hour");
+            due("the first GATE and HOUR", x.shake(0, 1, 0), 0);
+            due("the last GATE and HOUR", x.shake(0, 1, 11), 511);
+            x = ruled("town 2 1;person 0;person 0", "shake day % 1000 if day < 10000");
+            due("the first DAY", x.shake(0, 1, 0), 0);
+            x.night();
+            due("the next DAY", x.shake(0, 1, 0), 1);
+            for (int day = 2; day <= 9999; day++) {
+                x.night();
+            }
+            due("the last DAY", x.shake(0, 1, 0), 999);
         });
         terms("in how many HOURS ahead of it that DAY they met", () -> {
             PalmCensus x = ruled("town 2 12;person 000000000000;person 000000000000", "shake met");
@@ -392,6 +462,11 @@ public final class BoundsOfTermsTest extends BoundsHelp {
             badRule(values(59) + " if 1=1", values(59).length() + 5, 3);
             badRule(values(60) + " if 1=1", values(60).length() + 4, 3);
             badRule(values(60) + ";shake 1", values(60).length() + 7, 3);
+            PalmCensus x = new PalmCensus();
+            due("one too many", rule(x, values(61)), fault(values(61).length() - 1, 3));
+            for (int r = 0; r < 6; r++) {
+                due("60 in each RULE", rule(x, values(60)), r);
+            }
         });
     }
 
@@ -423,6 +498,10 @@ public final class BoundsOfTermsTest extends BoundsHelp {
             badRule("shake 1 if 1=1]", 14, 0);
             badRule("shake -1", 6, 0);
             badRule("shake 1 if []", 12, 0);
+        });
+        terms("the end (behind the last byte)", () -> {
+            eachEnd("town 6 12;person 0-2345-54321;person-----------5;left 01;gloved1;child 0;kin 0 1;counter 5", true);
+            eachEnd("shake 12345+crowd%3*met if not [one<=other or kin=1] and gloves>=children;shake 7", false);
         });
         terms("1 a NUMBER of more digits, or not as told (the second one of kin, if it is the first)", () -> {
             badTown("town 2 1;person 0;person 0;kin 0 0", 33, 1);
@@ -472,6 +551,19 @@ public final class BoundsOfTermsTest extends BoundsHelp {
             badRule(values(59) + " if 1!1", values(59).length() + 5, 0);
             badRule("shake 1 if " + "[".repeat(10) + "nott 1=1", 21, 0);
         });
+    }
+
+    /** Each begin of a text ends in the same way where it ends the TAPE's 400 bytes, as where it stands alone. */
+    private static void eachEnd(String text, boolean isTown) {
+        for (int k = 1; k <= text.length(); k++) {
+            String begin = text.substring(0, k);
+            int ahead = 400 - k;
+            PalmCensus x = new PalmCensus();
+            PalmCensus y = new PalmCensus();
+            int alone = isTown ? town(x, begin) : rule(x, begin);
+            int last = isTown ? town(y, " ".repeat(ahead) + begin) : rule(y, " ".repeat(ahead) + begin);
+            due("at the end of 400 bytes: " + begin, last, alone < 0 ? alone - 8 * ahead : alone);
+        }
     }
 
     private static void lifeOfAnObject() {
@@ -588,7 +680,7 @@ public final class BoundsOfTermsTest extends BoundsHelp {
             for (int i = 0; i < 25; i++) {
                 were[i] = stateOf(x);
                 switch (i % 4) {
-                    case 0 -> x.go(i % 3, i % 4, x.at(i % 3, i % 4) == 2 ? 99 : 2);
+                    case 0 -> x.go(i % 3, i / 4 % 4, x.at(i % 3, i / 4 % 4) == 2 ? 99 : 2);
                     case 1 -> yes("glove", x.glove(i % 3, x.person(i % 3, 1) == 0));
                     case 2 -> yes("counter", x.counter(i % 3, (x.count(6) >> i % 3 & 1) == 0));
                     default -> x.night();
@@ -700,6 +792,9 @@ public final class BoundsOfTermsTest extends BoundsHelp {
             asks(x, 1, 11, 252);
             x.told(1, 11, 45);
             asks(x, 0, 0, 1);
+            // Of the three at GATE 1: the SUMS 0 (four times), 8, 3, 6 and 17; of the two at GATE 0: 0 (three times) and 4.
+            String apart = "town 2 1;person 1;person 0;person 1;person 0;person -;person 1;kin 0 2;kin 2 5;child 5";
+            asks(townOf(apart), 1, 0, 4 * 8);
         });
         terms("one knows in each WORLD how many are there (8 PEOPLE at most)", () -> {
             due("nobody", townOf("town 2 1").gates(0), 0);
@@ -742,6 +837,10 @@ public final class BoundsOfTermsTest extends BoundsHelp {
             odds(townOf("town 2 1;person 0;person -;child 0"), -2, -2);
             odds(townOf("town 2 1"), -2, -2);
             odds(ruled("town 2 1;person 0;person 0", "shake 0 - 3"), 0, 0);
+            odds(townOf("town 2 1;person 0;person 0;child 1;gloved 1"), 1, 2);
+            odds(ruled("town 2 1" + ";person 0".repeat(4), "shake 1"), -2, -2);
+            odds(ruled("town 2 1" + ";person 0".repeat(3), "shake gloves"), -2, -2);
+            odds(ruled("town 2 1;person 0;person 0;person 1;person 1", "shake gloves if one = 2;shake 1 if gloves = 2"), 1, 4);
         });
         terms("of several sets the least as bits", () -> {
             odds(ruled("town 2 1;person 0;person 0;person 0", "shake 1 if gloves = 2"), 2, 3);
@@ -778,6 +877,26 @@ public final class BoundsOfTermsTest extends BoundsHelp {
             due("17", townOf(six + ";person 1;person 1;person 2;person 2").shuns(), -3);
             due("17", townOf(six + ";person 1;person 1;person 2;person 2").shook(0, 1), -3);
         });
+        terms("sets of twos who MEET, that shook, by which all PALMS are so", () -> {
+            PalmCensus x = townOf("town 6 1" + ";person 0".repeat(6) + ";person 1;person 1");
+            for (int p = 0; p < 6; p++) {
+                x.palms(p, 1);
+            }
+            due("15 ways of 6 in twos, and one two free", x.shuns(), 30);
+            for (int p = 0; p < 6; p++) {
+                x.palms(p, 0);
+            }
+            due("one two free", x.shuns(), 2);
+            x.palms(7, 0);
+            due("the empty set alone", x.shuns(), 1);
+            for (int p = 0; p < 6; p++) {
+                x.palms(p, 5);
+            }
+            x.palms(6, 1);
+            due("none", x.shuns(), 0);
+            x.palms(7, 1);
+            due("the full set alone", x.shuns(), 1);
+        });
         terms("1 if in all of them they shook, 0 if in none, 2 else", () -> {
             PalmCensus x = townOf("town 2 1" + ";person 0".repeat(4));
             due("else", x.shook(0, 1), 2);
@@ -809,6 +928,8 @@ public final class BoundsOfTermsTest extends BoundsHelp {
             due("one", townOf("town 2 1;person -").islands(), 1);
             due("each alone", townOf("town 2 1" + ";person -".repeat(10)).islands(), 10);
             due("all", townOf("town 2 1" + ";person 1".repeat(10)).islands(), 1);
+            due("one among the others",
+                townOf("town 6 2;person 0-;person 10;person 0-;person -0;person 25;person 35").islands(), 3);
             due("a chain, the last HOUR first",
                 townOf("town 6 4;person ---0;person --10;person -21-;person 32--;person 3---;person ----").islands(), 2);
         });
@@ -983,9 +1104,13 @@ public final class BoundsOfTermsTest extends BoundsHelp {
             RICH.accept(x);
             x.image(0);
             x.force(1);
-            x.undo();
-            x.go(0, 0, 2);
-            x.told(0, 0, 0);
+            x.told(-1, 0, 0);
+            for (int i = 0; i < 10; i++) {
+                x.told(2, 0, 7);
+            }
+            for (int i = 0; i < 20; i++) {
+                x.go(0, 3, i % 2);
+            }
             x.palms(1, 1);
             x.seed(9);
             town(x, "town 6 1");
