@@ -179,9 +179,10 @@ public final class BoundsOfTermsTest extends BoundsHelp {
         });
         terms("two PEOPLE that were told", () -> {
             String two = "town 2 1;person 0;person 0;";
-            PalmCensus x = townOf(two + "kin 1 0;kin 0 1;kin 1 0");
-            due("kin", x.person(0, 3), 2);
-            due("kin", x.person(1, 3), 1);
+            PalmCensus x = townOf(two + "person 0;kin 1 0;kin 0 1;kin 2 0;kin 1 2");
+            due("kin", x.person(0, 3), 6);
+            due("kin", x.person(1, 3), 5);
+            due("kin", x.person(2, 3), 3);
             badTown(two + "kin 2 0", 31, 1);
             badTown(two + "kin 0 2", 33, 1);
             badTown(two + "kin 0 2;person 0", 33, 1);
@@ -728,6 +729,29 @@ public final class BoundsOfTermsTest extends BoundsHelp {
             }
             idle(RICH, "the rest", x -> x.total() + x.street(7, 0, 3) + x.shuns() + x.islands() + x.census() & 0, 0);
         });
+        terms("(By what is asked nothing changes.)", () -> {
+            PalmCensus x = townOf("town 2 2;person 00;person 00;person -1;person -1;kin 2 3");
+            for (int times = 0; times < 2; times++) {
+                due("busy(0)", x.busy(0), 1);
+                due("busy(1)", x.busy(1), 1);
+                cheats(x, 0, 12 + 4 + 4, 1, 1);
+                asks(x, 0, 0, 12);
+                cheats(x, 2, 12 + 4 + 4, 0, 0);
+                odds(x, -2, -2);
+                worldsAre(x, 16, 0, 4, 0, 0);
+            }
+            x.go(2, 1, 99);
+            due("busy(1) then", x.busy(1), 0);
+            cheats(x, 3, 12, 0, 0);
+            cheats(x, 0, 8, 1, 1);
+            // They MEET twice that DAY, and count once.
+            rule(x, "shake 1 if gloves = 2 and hour = 0");
+            rule(x, "shake 2");
+            x.force(0);
+            odds(x, 2, 3);
+            x.force(1);
+            odds(x, -2, -2);
+        });
         terms("the others are not (crowd counts those who are there)", () -> {
             PalmCensus x = ruled("town 2 1" + ";person 0".repeat(10), "shake crowd");
             x.told(0, 0, 2);
@@ -737,6 +761,10 @@ public final class BoundsOfTermsTest extends BoundsHelp {
             x.told(0, 0, 450);
             due("the world of all", x.worlds(0), 1);
             due("all", x.worlds(3), 1023);
+            x.told(-1, 0, 0);
+            x.told(0, 0, 9);
+            due("worlds of three", x.worlds(0), 120);
+            due("three, behind ten", x.worlds(2), 3);
         });
         terms("TOLD, 10 at most", () -> {
             PalmCensus x = townOf(TOWN);
@@ -820,6 +848,13 @@ public final class BoundsOfTermsTest extends BoundsHelp {
             cheats(townOf("town 2 1;person 0;person 0"), 0, 0, 0, 99);
             cheats(ruled("town 2 1;person 0;person 0", "shake 0 - 5"), 0, 0, 0, 99);
             cheats(ruled("town 2 1;person 0;person 1;person 1", "shake 0 - 5 if one = 0;shake 1"), 0, 1, 0, 99);
+        });
+        terms("one HOUR elsewhere by which TOTAL is greatest", () -> {
+            cheats(ruled("town 2 3;person 00-;person 000", "shake 1 if met = 0;shake 5"), 0, 11, 2, 0);
+            cheats(ruled("town 2 2;person -0;person 00", "shake 1 if met = 0;shake 10 * one + other * 3"), 0, 4, 0, 0);
+            cheats(ruled("town 2 3;person -00;person 000", "shake met"), 0, 3, 0, 0);
+            cheats(ruled("town 2 3;person -00;person 000", "shake met"), 1, 1, 0, 99);
+            cheats(ruled("town 2 1;person 0;person 0;person 1", "shake crowd"), 2, 9, 0, 0);
         });
         terms("of several the least HOUR, then home, then the least GATE", () -> {
             cheats(townOf("town 3 2;person 0-"), 0, 0, 0, 99);
