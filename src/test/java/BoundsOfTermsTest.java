@@ -824,6 +824,15 @@ public final class BoundsOfTermsTest extends BoundsHelp {
             String apart = "town 2 1;person 1;person 0;person 1;person 0;person -;person 1;kin 0 2;kin 2 5;child 5";
             asks(townOf(apart), 1, 0, 4 * 8);
         });
+        terms("the most with one SUM are fewest", () -> {
+            // All of two and more count this SUM in all, the five of one and none count 0.
+            String rule = "shake SUM if crowd = 2 or one = 0 and other = 1 or one = 2 and crowd = 3";
+            for (int sum = 1; sum <= 999; sum++) {
+                String town = "town 2 1" + ";person 1".repeat(4);
+                due("of " + sum, ruled(town, rule.replace("SUM", "" + sum)).ask(2), 11);
+                due("of -" + sum, ruled(town, rule.replace("SUM", "0 - " + sum)).ask(2), 11);
+            }
+        });
         terms("one knows in each WORLD how many are there (8 PEOPLE at most)", () -> {
             due("nobody", townOf("town 2 1").gates(0), 0);
             due("one, who may be there or not", townOf("town 2 1;person 0").gates(0), -2);

@@ -680,29 +680,46 @@ public final class PromisesTest {
         due("nobody", x.ask(2), 1);
     }
 
-    /** Hundreds of SUMS of one crowd, many of them more than once. */
+    /** Hundreds of SUMS of one crowd, many of them more than once, and by what is TOLD not always 0 the most. */
     private static void askedOfMany() {
-        fresh("town 2 1" + times(";person 0", 10));
-        rule("shake one * 41 + other * other * 7 % 97");
+        for (int i = 0; i < 100; i++) {
+            askedOfMany(41 + i, 7 + i % 11, 97 + i % 29);
+        }
+    }
+
+    /** In HOUR 0 the first two alone MEET, in HOUR 1 all do. */
+    private static void askedOfMany(int a, int b, int c) {
+        fresh("town 2 2;person 00;person 00" + times(";person -0", 8));
+        rule("shake 1 if hour = 0;shake one * " + a + " % 331 + other * other * " + b + " % " + c);
         x.force(0);
+        Map<Integer, Integer> all = sumsOf(0, a, b, c);
+        Map<Integer, Integer> ofBoth = sumsOf(3, a, b, c);
+        due("hundreds of sums", all.size() > 300 ? 1 : 0, 1);
+        due("ask", x.ask(2), Collections.max(all.values()));
+        x.told(0, 0, 1);
+        due("ask, the first two are there", x.ask(2), Collections.max(ofBoth.values()));
+        int one = ofBoth.keySet().stream().filter(sum -> ofBoth.get(sum) > 1).findFirst().orElseThrow();
+        x.told(0, 1, one);
+        due("worlds", x.worlds(0), ofBoth.get(one));
+        due("ask", x.ask(2), ofBoth.get(one));
+    }
+
+    /** How many WORLDS with these have each SUM in HOUR 1. */
+    private static Map<Integer, Integer> sumsOf(int with, int a, int b, int c) {
         Map<Integer, Integer> alike = new HashMap<>();
         for (int world = 0; world < 1024; world++) {
             int sum = 0;
             for (int one = 0; one < 10; one++) {
                 for (int other = one + 1; other < 10; other++) {
                     boolean both = (world >> one & 1) + (world >> other & 1) == 2;
-                    sum += both ? one * 41 + other * other * 7 % 97 : 0;
+                    sum += both ? one * a % 331 + other * other * b % c : 0;
                 }
             }
-            alike.merge(sum, 1, Integer::sum);
+            if ((world & with) == with) {
+                alike.merge(sum, 1, Integer::sum);
+            }
         }
-        int most = Collections.max(alike.values());
-        due("hundreds of sums", alike.size() > 600 ? 1 : 0, 1);
-        due("ask", x.ask(2), most);
-        int other = alike.keySet().stream().filter(sum -> alike.get(sum) > 1 && sum != 0).findFirst().orElseThrow();
-        x.told(0, 0, other);
-        due("worlds", x.worlds(0), alike.get(other));
-        due("ask", x.ask(2), alike.get(other));
+        return alike;
     }
 
     private static void gates() {
