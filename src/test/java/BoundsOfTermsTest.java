@@ -857,6 +857,8 @@ public final class BoundsOfTermsTest extends BoundsHelp {
             cheats(townOf("town 2 1;person 0;person 0"), 0, 0, 0, 99);
             cheats(ruled("town 2 1;person 0;person 0", "shake 0 - 5"), 0, 0, 0, 99);
             cheats(ruled("town 2 1;person 0;person 1;person 1", "shake 0 - 5 if one = 0;shake 1"), 0, 1, 0, 99);
+            cheats(ruled("town 2 1;person -;person 0;person 1", "shake 0 - 5"), 0, -5, 0, 0);
+            cheats(ruled("town 6 12;person ------------" + ";person 012345012345".repeat(2), "shake 0 - 5"), 0, -60, 0, 1);
         });
         terms("one HOUR elsewhere by which TOTAL is greatest", () -> {
             cheats(ruled("town 2 3;person 00-;person 000", "shake 1 if met = 0;shake 5"), 0, 11, 2, 0);
