@@ -593,8 +593,8 @@ public final class PalmCensus {
         }
 
         boolean isDigitAt(int where) {
-            int sign = byteAt(where);
-            return sign >= '0' && sign <= '9';
+            boolean isThere = where >= 0 && where < length && where < bytes.length;
+            return isThere && bytes[where] >= '0' && bytes[where] <= '9';
         }
 
         void skipBlanks() {
@@ -926,15 +926,21 @@ public final class PalmCensus {
             return new Rule(Arrays.copyOf(steps, size), mindsCrowd);
         }
 
+        /** A CLAUSE is read here, not in a method of its own, since from a TEST on calls go deep enough. */
         boolean readRule() {
             size = 0;
             counted = 0;
             mindsCrowd = false;
             tape.startReading();
             for (int clause = 0; clause <= MOST_CLAUSES; clause++) {
-                if (!readClause(clause)) {
+                if (!readHead(clause) || !readSum()) {
                     return false;
                 }
+                boolean hasTest = tape.takeWord("if") != NONE;
+                if (hasTest && !readTest(0)) {
+                    return false;
+                }
+                write(hasTest ? Rule.IF_HOLDS : Rule.ALWAYS);
                 if (tape.isAtEnd()) {
                     return true;
                 }
@@ -945,20 +951,11 @@ public final class PalmCensus {
             return false;
         }
 
-        private boolean readClause(int clause) {
+        private boolean readHead(int clause) {
             if (tape.takeWord("shake") == NONE) {
                 return tape.blame(tape.place, Tape.CANNOT_STAND);
             }
-            if (clause >= MOST_CLAUSES) {
-                return tape.blame(tape.start, Tape.BAD_CLAUSE);
-            }
-            if (!readSum()) {
-                return false;
-            }
-            if (tape.takeWord("if") == NONE) {
-                return write(Rule.ALWAYS);
-            }
-            return readTest(0) && write(Rule.IF_HOLDS);
+            return clause < MOST_CLAUSES || tape.blame(tape.start, Tape.BAD_CLAUSE);
         }
 
         private boolean readTest(int depth) {
